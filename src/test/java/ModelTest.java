@@ -78,7 +78,7 @@ public final class ModelTest {
         "blob", "tree", "commit", "point", "fetch", "push", "arm", "recover", "collect", "up",
         "reference", "holds", "count", "talk", "packed", "packAt", "base", "weight", "verdict"};
     private static final int[] ARGUMENTS = {2, 3, 4, 3, 2, 2, 2, 1, 1, 1, 2, 2, 1, 1, 0, 1, 1, 0, 1};
-    private static final int[] CHANCES = {10, 10, 16, 5, 10, 12, 0, 6, 1, 2, 6, 4, 2, 4, 2, 5, 5, 3, 4};
+    private static final int[] CHANCES = {10, 10, 12, 5, 12, 12, 0, 6, 1, 2, 6, 4, 2, 4, 2, 5, 5, 3, 4};
 
     private static String text(int[] call) {
         StringBuilder text = new StringBuilder(NAMES[call[0]]).append('(');
@@ -95,6 +95,11 @@ public final class ModelTest {
         }
         int drawn = random.nextInt(sum);
         int method = 0;
+        // What a fetch or push left behind is looked at most closely just after it.
+        if (model.readsDue > 0) {
+            model.readsDue--;
+            drawn = sum - 1 - random.nextInt(23);
+        }
         while (method < CHANCES.length && drawn >= CHANCES[method] + (method == 6 ? armChance : 0)) {
             drawn -= CHANCES[method] + (method == 6 ? armChance : 0);
             method++;
@@ -109,17 +114,17 @@ public final class ModelTest {
         switch (NAMES[call[0]]) {
             case "blob" -> call[2] = content(random, contents);
             case "tree" -> {
-                call[2] = object(random, model, odd ? '?' : 'e');
-                call[3] = random.nextBoolean() ? -1 : object(random, model, odd ? '?' : 'e');
+                call[2] = object(random, model, call[1], odd ? '?' : 'e');
+                call[3] = random.nextInt(4) == 0 ? -1 : object(random, model, call[1], odd ? '?' : 'e');
             }
             case "commit" -> {
                 call[2] = odd ? random.nextInt(7) - 2 : random.nextInt(4);
-                call[3] = object(random, model, random.nextInt(25) == 0 ? '?' : 't');
-                call[4] = random.nextInt(3) > 0 ? -1 : object(random, model, random.nextInt(9) == 0 ? '?' : 'c');
+                call[3] = object(random, model, call[1], random.nextInt(25) == 0 ? '?' : 't');
+                call[4] = random.nextInt(3) > 0 ? -1 : object(random, model, call[1], random.nextInt(9) == 0 ? '?' : 'c');
             }
             case "point" -> {
                 call[2] = odd ? random.nextInt(11) - 2 : random.nextInt(4);
-                call[3] = random.nextInt(6) == 0 ? -1 : object(random, model, random.nextInt(9) == 0 ? '?' : 'c');
+                call[3] = random.nextInt(6) == 0 ? -1 : object(random, model, call[1], random.nextInt(9) == 0 ? '?' : 'c');
             }
             case "fetch", "push" -> {
                 call[1] = random.nextInt(30) == 0 ? random.nextInt(6) - 2 : 1 + random.nextInt(2);
@@ -140,17 +145,20 @@ public final class ModelTest {
         return random.nextInt(30) == 0 ? (random.nextBoolean() ? -1 : 3) : random.nextInt(3);
     }
 
+    /** Contents that differ in a few digits, so that deltas are near the weight of a whole blob. */
     private static int content(Random random, int contents) {
         int small = random.nextInt(contents);
-        return random.nextBoolean() ? small * 0x01010101 : (small << (4 * random.nextInt(8))) ^ 0x70f0f0f0;
+        return random.nextInt(4) == 0 ? small * 0x01010101 : random.nextInt() & random.nextInt() & 0x91111111;
     }
 
-    /** Mostly an object of the right sort (entry, tree, commit) of late, held or not; '?' any number. */
-    private static int object(Random random, Model model, char sort) {
+    /** Mostly an object of the right sort (entry, tree, commit) that the node holds; '?' any number. */
+    private static int object(Random random, Model model, int node, char sort) {
+        boolean anywhere = node < 0 || node > 2 || random.nextInt(12) == 0;
         if (sort != '?') {
-            for (int tries = 0; tries < 30; tries++) {
-                int n = random.nextInt(61);
-                if (n < model.objects.size() && fits(model.objects.get(n).kind, sort)) {
+            for (int tries = 0; tries < 200; tries++) {
+                int n = random.nextInt(60);
+                if (n < model.objects.size() && fits(model.objects.get(n).kind, sort)
+                        && (anywhere || model.sites[node].held.contains(n))) {
                     return n;
                 }
             }
@@ -261,6 +269,7 @@ public final class ModelTest {
         final List<Thing> objects = new ArrayList<>();
         final Site[] sites = {new Site(), new Site(), new Site()};
         final int[] talk = new int[3];
+        int readsDue = 0;
         List<Integer> pack = new ArrayList<>();
         List<Integer> bases = new ArrayList<>();
         final int[] verdicts = new int[4];
@@ -552,6 +561,7 @@ public final class ModelTest {
             for (int place = 0; place < pack.size(); place++) {
                 bases.add(bestBase(place));
             }
+            readsDue = Integer.min(10, pack.size());
         }
 
         boolean arm(int node, int n) {
