@@ -49,7 +49,7 @@ public final class PackExchange {
             nodes[node] = new Node();
         }
         latestTalk = new Talk();
-        latestPack = new Pack(store);
+        latestPack = new Pack();
         verdicts = new int[OWN];
         targets = new int[REFERENCES];
     }
@@ -134,7 +134,7 @@ public final class PackExchange {
         long wants = server.commitsOf(set) & ~own.heldSet();
         long candidates = store.reachOfAll(own.commitsOf(ALL_REFERENCES)) & store.allOfKind(COMMIT);
         long acknowledged = latestTalk.run(store, wants, candidates, server.heldSet());
-        latestPack.fill(store.reachOfAll(wants) & ~store.reachOfAll(acknowledged));
+        latestPack.fill(store, store.reachOfAll(wants) & ~store.reachOfAll(acknowledged));
         if (!own.writeMissing(latestPack.memberSet())) {
             return DOWN;
         }
@@ -155,11 +155,11 @@ public final class PackExchange {
             return BAD;
         }
         if (!judge(own, server, set)) {
-            latestPack.fill(0L);
+            latestPack.fill(store, 0L);
             return 0;
         }
         long common = server.commitsOf(ALL_OWN) & own.heldSet();
-        latestPack.fill(store.reachOfAll(own.commitsOf(set)) & ~store.reachOfAll(common));
+        latestPack.fill(store, store.reachOfAll(own.commitsOf(set)) & ~store.reachOfAll(common));
         return carryOutPush(own, server, set) ? 1 : DOWN;
     }
 
@@ -450,7 +450,7 @@ public final class PackExchange {
         }
 
         int contentOf(int number) {
-            return isOfKind(number, BLOB) ? firsts[number] : 0;
+            return isNumber(number) ? firsts[number] : 0;
         }
 
         /** How many entries a tree has, or how many a commit's tree and parents are. */
@@ -675,7 +675,6 @@ public final class PackExchange {
         private static final int MOST_CHAIN = 2;
         private static final int DIGITS = 8;
 
-        private final Store store;
         private final int[] objects = new int[LIMIT];
         private final int[] bases = new int[LIMIT];
         private final int[] chains = new int[LIMIT];
@@ -683,17 +682,13 @@ public final class PackExchange {
         private int size = 0;
         private int total = 0;
 
-        Pack(Store store) {
-            this.store = store;
-        }
-
-        void fill(long newMembers) {
+        void fill(Store store, long newMembers) {
             members = newMembers;
             size = 0;
             total = 0;
-            placeKind(COMMIT);
-            placeKind(TREE);
-            placeKind(BLOB);
+            placeKind(store, COMMIT);
+            placeKind(store, TREE);
+            placeKind(store, BLOB);
         }
 
         long memberSet() {
@@ -720,25 +715,26 @@ public final class PackExchange {
             return place >= 0 && place < size;
         }
 
-        private void placeKind(int kind) {
+        private void placeKind(Store store, int kind) {
             for (int n = LIMIT - 1; n >= 0 && size < LIMIT; n--) {
                 if (isIn(members, n) && store.isOfKind(n, kind)) {
                     int place = size;
                     objects[place] = n;
                     bases[place] = NONE;
                     chains[place] = 0;
-                    total += kind == BLOB ? chooseBase(place) : 1 + store.partsOf(n);
+                    total += kind == BLOB ? chooseBase(store, place) : 1 + store.partsOf(n);
                     size = place + 1;
                 }
             }
         }
 
         /** Answers the blob's weight. Later places come first, so among equals the highest stays. */
-        private int chooseBase(int place) {
+        private int chooseBase(Store store, int place) {
             int least = WHOLE_WEIGHT;
+            int content = store.contentOf(objects[place]);
             for (int before = place - 1; before >= 0 && before >= place - BASES; before--) {
                 if (store.isOfKind(objects[before], BLOB) && chains[before] < MOST_CHAIN) {
-                    int delta = DELTA_WEIGHT + differingDigits(objects[before], objects[place]);
+                    int delta = DELTA_WEIGHT + differingDigits(content, store.contentOf(objects[before]));
                     if (delta < least) {
                         least = delta;
                         bases[place] = before;
@@ -749,8 +745,8 @@ public final class PackExchange {
             return least;
         }
 
-        private int differingDigits(int one, int other) {
-            int difference = store.contentOf(one) ^ store.contentOf(other);
+        private static int differingDigits(int one, int other) {
+            int difference = one ^ other;
             int digits = 0;
             for (int digit = 0; digit < DIGITS; digit++) {
                 if ((difference >>> 4 * digit & 15) != 0) {
