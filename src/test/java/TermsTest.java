@@ -32,6 +32,9 @@ public final class TermsTest extends Scenes {
         says("OBJECTS", "Objects of the same kind with the same content (the same entries; the same tree and "
                 + "parents, in the same order) are the same object with the same number, on whatever node they "
                 + "are made.", TermsTest::theSameObject);
+        says("OBJECTS", "in the order in which they are first written anywhere.", TermsTest::numbersAreKept);
+        says("OBJECTS", "are the same object with the same number, on whatever node they are made.",
+                TermsTest::madeAgain);
         says("OBJECTS", "An object REACHES itself, and what its entries, its tree and its parents reach.",
                 TermsTest::reach);
     }
@@ -289,6 +292,56 @@ public final class TermsTest extends Scenes {
         due("the same on another node", x.commit(2, 3, 2, -1), 8);
         due("the same again", x.commit(2, 0, 2, -1), 8);
         due("no new one", x.blob(1, 5), 12);
+    }
+
+    /** Client 1 made the commits 2 .. last; now no node holds any object. */
+    private static PackExchange allGivenUp(int last) {
+        PackExchange x = chain(1, last);
+        due("none", x.point(1, 0, -1), 1);
+        due("all are given up", x.collect(1), last + 1);
+        for (int node = 0; node < 3; node++) {
+            dueHeld(x, node);
+        }
+        return x;
+    }
+
+    /** An object that all nodes gave up was first written when it was: no other gets its number. */
+    private static void numbersAreKept() {
+        PackExchange x = allGivenUp(3);
+        due("the next number", x.blob(1, 8), 4);
+        due("the next number", x.blob(0, 9), 5);
+        due("tree", x.tree(0, 5, -1), 6);
+        due("commit", x.commit(0, 0, 6, -1), 7);
+
+        x = allGivenUp(59);
+        for (int node = 0; node < 3; node++) {
+            due("all numbers are given out", x.blob(node, 8), FULL);
+            due("one that there was", x.blob(node, 7), 0);
+            due("no tree that there was", x.tree(node, 0, 0), FULL);
+            due("one that there was", x.tree(node, 0, -1), 1);
+        }
+    }
+
+    private static void madeAgain() {
+        PackExchange x = allGivenUp(59);
+        due("it is not held", x.tree(2, 0, -1), BAD);
+        makeOneCommit(x, 2);
+        for (int n = 3; n < 60; n++) {
+            due("commit", x.commit(2, 0, 1, -1), n);
+        }
+        due("no such commit before", x.commit(2, 0, 1, -1), FULL);
+        dueReferences(x, 2, 59);
+
+        x = allGivenUp(3);
+        due("arm", x.arm(0, 1), true);
+        due("making it again is a write", x.blob(0, 7), 0);
+        due("and so is this", x.tree(0, 0, -1), DOWN);
+        due("recover", x.recover(0), 0);
+        due("tree", x.tree(0, 0, -1), 1);
+        due("commit", x.commit(0, 2, 1, -1), 2);
+        due("fetch", x.fetch(1, 4), 3);
+        duePack(x, 2, 1, 0);
+        due("on another node, above the same parent", x.commit(1, 0, 1, 2), 3);
     }
 
     private static void reach() {
